@@ -159,6 +159,15 @@ public final class CallsTest {
         Due.treaty(x, "", 2);
         Due.due("15: the limit at first", x.says(2, 0), 99);
         Due.due("15: nothing grave at first", x.says(2, 22), 0);
+        for (int k = 0; k < 10; k++) {
+            Due.due("15: weight of " + k + " at first", x.says(2, 10 + k), 1);
+        }
+        Due.treaty(x, "l42;", 3);
+        Due.due("15: a limit of two digits", x.says(3, 0), 42);
+        Due.treaty(x, "l08;", 4);
+        Due.due("15: a limit with a 0 ahead", x.says(4, 0), 8);
+        Due.treaty(x, "l90;", 5);
+        Due.due("15: a limit with a 0 behind", x.says(5, 0), 90);
     }
 
     private static void inForce() {

@@ -97,6 +97,13 @@ public final class DoublesTest {
         Due.due("29: each is cut", x.rate(), 142 * 1000 / 475);
         x.draw(1, 1);
         Due.due("29: a rare one", x.rate(), 10142 * 1000 / 10475);
+        PortLook v = twoCalls();
+        Due.look(v, 0, 1, 1);
+        Due.look(v, 1, 0, 1);
+        v.draw(0, 73);
+        v.draw(1, 80);
+        // 10000 by 73 is 136, by 80 is 125.
+        Due.due("29: just below 137", v.rate(), 521);
         PortLook y = twoCalls();
         Due.look(y, 0, 1, 1);
         y.draw(0, 100);

@@ -159,7 +159,9 @@ public final class ShipsTest {
         for (int i = 0; i < 10; i++) {
             x.ship(0, 10 * i, 0);
         }
-        Due.due("8: its own", x.fleet(4, 0), 16);
+        for (int i = 0; i < 10; i++) {
+            Due.due("8: its own", x.fleet(i, 0), 1 << i);
+        }
         x.one(1, 2);
         x.one(3, 4);
         Due.due("8: two", x.fleet(2, 0), 6);

@@ -652,16 +652,12 @@ public final class PortLook {
         return tally.isDark();
     }
 
-    private boolean isFlagDark(Ship s) {
-        return isDarkGroup(OF_FLAG, s.traitOn(FLAG, today));
-    }
-
     private int riskOf(Ship s) {
         int sum = 1;
         if (today - s.built >= OLD_YEARS * YEAR) {
             sum += 2;
         }
-        if (isFlagDark(s)) {
+        if (isDarkGroup(OF_FLAG, s.traitOn(FLAG, today))) {
             sum += 3;
         }
         if (isDarkGroup(OF_CLASS, s.society)) {
@@ -701,7 +697,8 @@ public final class PortLook {
         if (s.isBanned()) {
             return;
         }
-        int span = isFlagDark(s) ? banMonths * 2 / 3 : banMonths;
+        boolean dark = isDarkGroup(OF_FLAG, s.traitOn(FLAG, today));
+        int span = dark ? banMonths * 2 / 3 : banMonths;
         int holds = 0;
         for (int i = 0; i < lookCount; i++) {
             Look l = looks[i];

@@ -5,7 +5,12 @@ import java.lang.reflect.Method;
 import java.lang.reflect.Modifier;
 import java.nio.file.Files;
 import java.nio.file.Path;
+import java.util.ArrayList;
+import java.util.Arrays;
+import java.util.List;
+import java.util.Map;
 import java.util.Set;
+import java.util.TreeMap;
 import java.util.TreeSet;
 import java.util.regex.Matcher;
 import java.util.regex.Pattern;
@@ -115,7 +120,8 @@ public final class LanguageTest {
     /** A method begins at an indented line with a brace behind its arguments, and ends at a brace as far in. */
     private static void longMethods(String code) {
         String[] lines = code.split("\n");
-        Pattern head = Pattern.compile("^(    |        )(?! )(?!if|for|while|switch).*\\) \\{$");
+        Pattern head = Pattern.compile("^(    |        )(?! )(?!if|for|while|switch).*?(\\w+)\\(.*\\) \\{$");
+        Map<String, String> bodies = new TreeMap<>();
         for (int i = 0; i < lines.length; i++) {
             Matcher m = head.matcher(lines[i]);
             if (!m.find()) {
@@ -127,6 +133,30 @@ public final class LanguageTest {
             }
             Due.holds("sixty lines at most: " + lines[i].trim(), end - i < 60);
             Due.holds("seven parameters at most: " + lines[i].trim(), lines[i].split(",").length <= 7);
+            String body = String.join("\n", Arrays.asList(lines).subList(i + 1, Math.min(end, lines.length)));
+            bodies.merge(m.group(2), body, String::concat);
         }
+        Due.holds("methods are found in the text", bodies.keySet().containsAll(Set.of("ship", "found", "PortLook")));
+        for (String name : bodies.keySet()) {
+            int deep = depth(name, bodies, new ArrayList<>());
+            Due.holds("calls at most eight deep, from " + name + " " + deep, deep <= 8);
+        }
+    }
+
+    /** Methods of one name are taken as one, so this may be more than it is, but no less. */
+    private static int depth(String name, Map<String, String> bodies, List<String> open) {
+        if (open.contains(name)) {
+            return 0;
+        }
+        open.add(name);
+        int below = 0;
+        Matcher m = Pattern.compile("\\b(\\w+)\\(").matcher(bodies.get(name));
+        while (m.find()) {
+            if (bodies.containsKey(m.group(1))) {
+                below = Math.max(below, depth(m.group(1), bodies, open));
+            }
+        }
+        open.remove(name);
+        return below + 1;
     }
 }
